@@ -54,41 +54,6 @@ public final class PromiseTest {
         Due.due(test + ": " + call, got, want);
     }
 
-    // ---- displays to start from
-
-    /** A display whose text buffer holds these characters. */
-    private static MarqueeDisplay withText(int... characters) {
-        MarqueeDisplay x = new MarqueeDisplay();
-        for (int character : characters) {
-            x.append(character);
-        }
-        return x;
-    }
-
-    private static void setText(MarqueeDisplay x, int... characters) {
-        x.clearText();
-        for (int character : characters) {
-            x.append(character);
-        }
-    }
-
-    /** Gap 0 and one message, the letter a, one column wide: every matrix column shows the dots. */
-    private static MarqueeDisplay withSameColumns(int dots, int color) {
-        MarqueeDisplay x = withText(0);
-        x.setGlyphWidth(0, 1);
-        x.setGlyphColumn(0, 0, dots);
-        x.setGap(0);
-        x.insertMessage(0, color);
-        return x;
-    }
-
-    /** A strip of this length of dark columns but for column 0, which has all eight dots. */
-    private static MarqueeDisplay withOneColumn(int gap, int color) {
-        MarqueeDisplay x = withSameColumns(255, color);
-        x.setGap(gap);
-        return x;
-    }
-
     // ---- the examples
 
     private static void exampleOne() {
@@ -188,14 +153,14 @@ public final class PromiseTest {
         due("setSpeed(2)", x.setSpeed(2), 2);
         due("setShift(0)", x.setShift(0), 0);
         due("setBudget(60)", x.setBudget(60), 60);
-        MarqueeDisplay other = withText(3, 4);
+        MarqueeDisplay other = Displays.withText(3, 4);
         other.insertMessage(0, 1);
         due("stripLength() beside another object", x.stripLength(), 0);
     }
 
     private static void setGlyphWidth() {
         test = "promise 2";
-        MarqueeDisplay x = withText(0, 0);
+        MarqueeDisplay x = Displays.withText(0, 0);
         for (int wrong : ABSURD) {
             due("setGlyphWidth(" + wrong + ", 1)", x.setGlyphWidth(wrong, 1), ARGUMENT);
             due("setGlyphWidth(0, " + wrong + ")", x.setGlyphWidth(0, wrong), ARGUMENT);
@@ -234,7 +199,7 @@ public final class PromiseTest {
 
     private static void setGlyphColumn() {
         test = "promise 3";
-        MarqueeDisplay x = withText(0);
+        MarqueeDisplay x = Displays.withText(0);
         x.insertMessage(0, 2);
         for (int wrong : ABSURD) {
             due("setGlyphColumn(" + wrong + ", 0, 0)", x.setGlyphColumn(wrong, 0, 0), ARGUMENT);
@@ -301,7 +266,7 @@ public final class PromiseTest {
 
     private static void clearText() {
         test = "promise 6";
-        MarqueeDisplay x = withText(1, 2, 3);
+        MarqueeDisplay x = Displays.withText(1, 2, 3);
         x.insertMessage(0, 1);
         due("clearText()", x.clearText(), 3);
         due("clearText() again", x.clearText(), 0);
@@ -379,7 +344,7 @@ public final class PromiseTest {
         due("setColor(0, 3)", x.setColor(0, 3), 3);
         due("removeMessage(0), the last one", x.removeMessage(0), 0);
         due("offset()", x.offset(), 0);
-        setText(x, 0);
+        Displays.setText(x, 0);
         for (int i = 0; i < 6; i++) {
             due("insertMessage again", x.insertMessage(0, 2), 7 * (i + 1));
         }
@@ -395,7 +360,7 @@ public final class PromiseTest {
 
     private static void setColor() {
         test = "promise 9";
-        MarqueeDisplay x = withSameColumns(1, 1);
+        MarqueeDisplay x = Displays.withSameColumns(1, 1);
         for (int wrong : ABSURD) {
             due("setColor(" + wrong + ", 1)", x.setColor(wrong, 1), ARGUMENT);
             due("setColor(0, " + wrong + ")", x.setColor(0, wrong), ARGUMENT);
@@ -418,7 +383,7 @@ public final class PromiseTest {
 
     private static void messageWidth() {
         test = "promise 10";
-        MarqueeDisplay x = withText(2);
+        MarqueeDisplay x = Displays.withText(2);
         due("messageWidth(0) of none", x.messageWidth(0), ARGUMENT);
         x.insertMessage(0, 1);
         for (int wrong : ABSURD) {
@@ -427,7 +392,7 @@ public final class PromiseTest {
         due("messageWidth(-1)", x.messageWidth(-1), ARGUMENT);
         due("messageWidth(1)", x.messageWidth(1), ARGUMENT);
         due("messageWidth(0) of one character", x.messageWidth(0), 5);
-        setText(x, 2, 26, 0, 1);
+        Displays.setText(x, 2, 26, 0, 1);
         x.insertMessage(1, 1);
         due("messageWidth(1)", x.messageWidth(1), 5 + 2 + 3 + 4 + 3);
         x.setGap(9);
@@ -435,14 +400,14 @@ public final class PromiseTest {
         x.setGlyphWidth(26, 6);
         due("messageWidth(1) with a wider glyph", x.messageWidth(1), 21);
         due("messageWidth(0) without that glyph", x.messageWidth(0), 5);
-        setText(x, 26, 26, 26, 26, 26, 26, 26, 26, 26, 26, 26, 26);
+        Displays.setText(x, 26, 26, 26, 26, 26, 26, 26, 26, 26, 26, 26, 26);
         x.insertMessage(0, 1);
         due("messageWidth(0), the greatest", x.messageWidth(0), 83);
     }
 
     private static void messageStart() {
         test = "promise 11";
-        MarqueeDisplay x = withText(0);
+        MarqueeDisplay x = Displays.withText(0);
         due("messageStart(0) of none", x.messageStart(0), ARGUMENT);
         x.insertMessage(0, 1);
         for (int wrong : ABSURD) {
@@ -470,7 +435,7 @@ public final class PromiseTest {
 
     private static void setColumns() {
         test = "promise 12";
-        MarqueeDisplay x = withSameColumns(1, 1);
+        MarqueeDisplay x = Displays.withSameColumns(1, 1);
         for (int wrong : ABSURD) {
             due("setColumns(" + wrong + ")", x.setColumns(wrong), ARGUMENT);
         }
@@ -499,7 +464,7 @@ public final class PromiseTest {
 
     private static void setGap() {
         test = "promise 13";
-        MarqueeDisplay x = withText(26);
+        MarqueeDisplay x = Displays.withText(26);
         for (int wrong : ABSURD) {
             due("setGap(" + wrong + ")", x.setGap(wrong), ARGUMENT);
         }
@@ -532,7 +497,7 @@ public final class PromiseTest {
 
     private static void setSpeed() {
         test = "promise 14";
-        MarqueeDisplay x = withText(0);
+        MarqueeDisplay x = Displays.withText(0);
         x.insertMessage(0, 1);
         for (int wrong : ABSURD) {
             due("setSpeed(" + wrong + ")", x.setSpeed(wrong), ARGUMENT);
@@ -554,7 +519,7 @@ public final class PromiseTest {
 
     private static void setShift() {
         test = "promise 15";
-        MarqueeDisplay x = withSameColumns(0b01000010, 1);
+        MarqueeDisplay x = Displays.withSameColumns(0b01000010, 1);
         for (int wrong : ABSURD) {
             due("setShift(" + wrong + ")", x.setShift(wrong), ARGUMENT);
         }
@@ -579,7 +544,7 @@ public final class PromiseTest {
 
     private static void setBudget() {
         test = "promise 16";
-        MarqueeDisplay x = withSameColumns(1, 1);
+        MarqueeDisplay x = Displays.withSameColumns(1, 1);
         for (int wrong : ABSURD) {
             due("setBudget(" + wrong + ")", x.setBudget(wrong), ARGUMENT);
         }
@@ -594,7 +559,7 @@ public final class PromiseTest {
 
     private static void setDefective() {
         test = "promise 17";
-        MarqueeDisplay x = withSameColumns(255, 1);
+        MarqueeDisplay x = Displays.withSameColumns(255, 1);
         for (int wrong : ABSURD) {
             due("setDefective(" + wrong + ", 0, true)", x.setDefective(wrong, 0, true), ARGUMENT);
             due("setDefective(0, " + wrong + ", true)", x.setDefective(0, wrong, true), ARGUMENT);
@@ -623,7 +588,7 @@ public final class PromiseTest {
 
     private static void tick() {
         test = "promise 18";
-        MarqueeDisplay x = withText(0);
+        MarqueeDisplay x = Displays.withText(0);
         for (int wrong : ABSURD) {
             int want = isTickCount(wrong) ? 0 : ARGUMENT;
             due("tick(" + wrong + ")", x.tick(wrong), want);
@@ -653,7 +618,7 @@ public final class PromiseTest {
 
     private static void offset() {
         test = "promise 19";
-        MarqueeDisplay x = withText(0);
+        MarqueeDisplay x = Displays.withText(0);
         due("offset()", x.offset(), 0);
         x.insertMessage(0, 1);
         x.tick(1);
@@ -675,7 +640,7 @@ public final class PromiseTest {
 
     private static void stripLength() {
         test = "promise 20";
-        MarqueeDisplay x = withText(0);
+        MarqueeDisplay x = Displays.withText(0);
         due("stripLength()", x.stripLength(), 0);
         x.insertMessage(0, 1);
         due("stripLength()", x.stripLength(), 7);
@@ -689,7 +654,7 @@ public final class PromiseTest {
         due("stripLength()", x.stripLength(), 8);
         x.removeMessage(0);
         due("stripLength()", x.stripLength(), 0);
-        setText(x, 26, 26, 26, 26, 26, 26, 26, 26, 26, 26, 26, 26);
+        Displays.setText(x, 26, 26, 26, 26, 26, 26, 26, 26, 26, 26, 26, 26);
         for (int i = 0; i < 6; i++) {
             x.insertMessage(i, 1);
         }
@@ -700,7 +665,7 @@ public final class PromiseTest {
 
     private static void period() {
         test = "promise 21";
-        MarqueeDisplay x = withText(0);
+        MarqueeDisplay x = Displays.withText(0);
         due("period()", x.period(), 0);
         x.setSpeed(9);
         due("period() on an empty strip", x.period(), 0);
@@ -714,13 +679,13 @@ public final class PromiseTest {
 
     private static void ticksUntilWhole() {
         test = "promise 22";
-        MarqueeDisplay x = withText(0);
+        MarqueeDisplay x = Displays.withText(0);
         due("ticksUntilWhole(0) of none", x.ticksUntilWhole(0), ARGUMENT);
         x.setColumns(8);
         x.insertMessage(0, 1);
-        setText(x, 2, 2);
+        Displays.setText(x, 2, 2);
         x.insertMessage(1, 1);
-        setText(x, 26, 26, 26);
+        Displays.setText(x, 26, 26, 26);
         x.insertMessage(2, 1);
         // 0..2 a, 7..17 cc, 22..29 three blanks: 8 columns, as many as the matrix has
         due("stripLength()", x.stripLength(), 34);
@@ -753,7 +718,7 @@ public final class PromiseTest {
     }
 
     private static void wholeOnShortStrip() {
-        MarqueeDisplay x = withText(0);
+        MarqueeDisplay x = Displays.withText(0);
         x.setGap(0);
         x.setSpeed(1);
         x.insertMessage(0, 1);
@@ -761,7 +726,7 @@ public final class PromiseTest {
             due("ticksUntilWhole(0) of a repeated message", x.ticksUntilWhole(0), 0);
             x.tick(1);
         }
-        MarqueeDisplay y = withText(26, 26, 26);
+        MarqueeDisplay y = Displays.withText(26, 26, 26);
         y.setColumns(8);
         y.setGap(0);
         y.setSpeed(1);
@@ -776,7 +741,7 @@ public final class PromiseTest {
 
     private static void pixel() {
         test = "promise 23";
-        MarqueeDisplay x = withText(0, 1);
+        MarqueeDisplay x = Displays.withText(0, 1);
         for (int wrong : ABSURD) {
             due("pixel(" + wrong + ", 0)", x.pixel(wrong, 0), ARGUMENT);
             due("pixel(0, " + wrong + ")", x.pixel(0, wrong), ARGUMENT);
@@ -786,20 +751,30 @@ public final class PromiseTest {
         due("pixel(0, -1)", x.pixel(0, -1), ARGUMENT);
         due("pixel(0, 16)", x.pixel(0, 16), ARGUMENT);
         due("pixel(7, 15) on an empty strip", x.pixel(7, 15), 0);
-        x.insertMessage(0, 1);
-        setText(x, 2);
-        x.insertMessage(1, 3);
         // the glyphs a, b and c, the dark column between a and b, and the gaps
-        int[] strip = {58, 104, 150, 0, 116, 191, 10, 85, 0, 0, 0, 0, 174, 22, 126, 230, 78, 0, 0, 0, 0};
+        int[] strip =
+                {58, 104, 150, 0, 116, 191, 10, 85, 0, 0, 0, 0, 174, 22, 126, 230, 78, 0, 0, 0, 0};
         int[] colors = {1, 1, 1, 0, 1, 1, 1, 1, 0, 0, 0, 0, 3, 3, 3, 3, 3, 0, 0, 0, 0};
         for (int offset = 0; offset < strip.length; offset++) {
-            duePicture(x, strip, colors, offset);
-            x.tick(2);
+            // A display of its own for each offset, since it is good for 512 calls only.
+            MarqueeDisplay y = withTwoColors();
+            y.tick(2 * offset);
+            duePicture(y, strip, colors, offset);
         }
+        x = withTwoColors();
         x.setDefective(3, 0, true);
         due("pixel(3, 0) of a defective LED", x.pixel(3, 0), 0);
         due("pixel(4, 0) beside it", x.pixel(4, 0), 1);
         due("pixel(3, 1) beside it", x.pixel(3, 1), 1);
+    }
+
+    /** The message a b in red and the message c in yellow. */
+    private static MarqueeDisplay withTwoColors() {
+        MarqueeDisplay x = Displays.withText(0, 1);
+        x.insertMessage(0, 1);
+        Displays.setText(x, 2);
+        x.insertMessage(1, 3);
+        return x;
     }
 
     private static void duePicture(MarqueeDisplay x, int[] strip, int[] colors, int offset) {
@@ -814,7 +789,7 @@ public final class PromiseTest {
 
     private static void load() {
         test = "promise 24";
-        MarqueeDisplay x = withSameColumns(0b11000001, 1);
+        MarqueeDisplay x = Displays.withSameColumns(0b11000001, 1);
         due("load() of red", x.load(), 48);
         x.setColor(0, 2);
         due("load() of green", x.load(), 48);
@@ -837,7 +812,7 @@ public final class PromiseTest {
 
     private static void brightness() {
         test = "promise 25";
-        MarqueeDisplay x = withSameColumns(0b1111, 1);
+        MarqueeDisplay x = Displays.withSameColumns(0b1111, 1);
         due("brightness() with load 64, budget 60", x.brightness(), 14);
         x.setBudget(64);
         due("brightness() with load 64, budget 64", x.brightness(), 15);
@@ -862,7 +837,7 @@ public final class PromiseTest {
         test = "promise 26";
         MarqueeDisplay x = new MarqueeDisplay();
         due("peakLoad()", x.peakLoad(), 0);
-        x = withOneColumn(9, 3);
+        x = Displays.withOneColumn(9, 3);
         x.setColumns(8);
         due("peakLoad() of one column on 10", x.peakLoad(), 16);
         x.tick(2);
@@ -885,7 +860,7 @@ public final class PromiseTest {
         test = "promise 27";
         MarqueeDisplay x = new MarqueeDisplay();
         due("peakOffset()", x.peakOffset(), MISSING);
-        x = withOneColumn(9, 3);
+        x = Displays.withOneColumn(9, 3);
         x.setColumns(8);
         due("peakOffset(), the least of many", x.peakOffset(), 0);
         x.setDefective(4, 0, true);
@@ -911,7 +886,7 @@ public final class PromiseTest {
         due("damage(-3)", x.damage(-3), ARGUMENT);
         due("damage(3)", x.damage(3), ARGUMENT);
         due("damage(2) on an empty strip", x.damage(2), 0);
-        x = withSameColumns(0b10000011, 3);
+        x = Displays.withSameColumns(0b10000011, 3);
         x.setColumns(8);
         due("damage(-2)", x.damage(-2), 16);
         due("damage(-1)", x.damage(-1), 8);
@@ -929,7 +904,7 @@ public final class PromiseTest {
         due("damage(1) with defects", x.damage(1), 9);
         due("damage(2) with defects", x.damage(2), 9);
         due("setShift(0)", x.setShift(0), 2);
-        x = withOneColumn(9, 1);
+        x = Displays.withOneColumn(9, 1);
         due("damage(1) of a column that is shown twice", x.damage(1), 2);
         x.setColumns(8);
         due("damage(1) of a column that is shown once", x.damage(1), 1);
@@ -957,7 +932,7 @@ public final class PromiseTest {
     }
 
     private static void dueBestShift(int dots, int[] defectiveRows, int damage, int shift) {
-        MarqueeDisplay x = withSameColumns(dots, 3);
+        MarqueeDisplay x = Displays.withSameColumns(dots, 3);
         x.setColumns(8);
         for (int row : defectiveRows) {
             x.setDefective(row, 6, true);
