@@ -212,7 +212,7 @@ public final class MarqueeDisplay {
         if (isDefective(row, column) == defective) {
             return INVALID_STATE;
         }
-        defects[column] ^= 1 << row;
+        flipDefect(row, column);
         return countDefects();
     }
 
@@ -345,6 +345,12 @@ public final class MarqueeDisplay {
         return ((defectsOf(column) >> row) & 1) == 1;
     }
 
+    private void flipDefect(int row, int column) {
+        if (isWithin(column, 0, defects.length - 1)) {
+            defects[column] ^= 1 << row;
+        }
+    }
+
     private int countDefects() {
         int count = 0;
         for (int mask : defects) {
@@ -430,7 +436,8 @@ public final class MarqueeDisplay {
         }
 
         void draw(int character, int column, int bits) {
-            if (hasColumn(character, column)) {
+            if (isCharacter(character) && isWithin(column, 0, MAX_GLYPH_WIDTH - 1)
+                    && hasColumn(character, column)) {
                 dots[character * MAX_GLYPH_WIDTH + column] = bits;
             }
         }
@@ -452,7 +459,7 @@ public final class MarqueeDisplay {
         private int length;
 
         void add(int character) {
-            if (length < characters.length) {
+            if (isWithin(length, 0, characters.length - 1)) {
                 characters[length] = character;
                 length++;
             }
@@ -462,9 +469,13 @@ public final class MarqueeDisplay {
             length = 0;
         }
 
+        int characterAt(int i) {
+            return isWithin(i, 0, characters.length - 1) ? characters[i] : BLANK;
+        }
+
         void copyFrom(Text other) {
-            for (int i = 0; i < MAX_TEXT; i++) {
-                characters[i] = other.characters[i];
+            for (int i = 0; i < characters.length; i++) {
+                characters[i] = other.characterAt(i);
             }
             length = other.length;
         }
@@ -491,7 +502,11 @@ public final class MarqueeDisplay {
 
         /** The message of this number, or null if there is none. */
         Message find(int index) {
-            return isWithin(index, 0, count - 1) ? slots[index] : null;
+            return isWithin(index, 0, last()) ? slots[index] : null;
+        }
+
+        private int last() {
+            return Math.min(count, slots.length) - 1;
         }
 
         void insert(int index, Text text, int color) {
@@ -513,11 +528,12 @@ public final class MarqueeDisplay {
             if (removed == null) {
                 return;
             }
-            for (int i = index; i < count - 1; i++) {
+            int last = last();
+            for (int i = index; i < last; i++) {
                 slots[i] = slots[i + 1];
             }
-            count--;
-            slots[count] = removed;
+            slots[last] = removed;
+            count = last;
         }
     }
 
@@ -542,7 +558,7 @@ public final class MarqueeDisplay {
             message.start = length;
             for (int i = 0; i < message.text.length; i++) {
                 addDark(i == 0 ? 0 : 1);
-                addGlyph(message.text.characters[i], message.color, font);
+                addGlyph(message.text.characterAt(i), message.color, font);
             }
             message.width = length - message.start;
         }
@@ -573,11 +589,13 @@ public final class MarqueeDisplay {
         }
 
         int dotsAt(int place) {
-            return length > 0 ? dots[wrap(place)] : 0;
+            int column = wrap(place);
+            return column < length && column < dots.length ? dots[column] : 0;
         }
 
         int colorAt(int place) {
-            return length > 0 ? colors[wrap(place)] : DARK;
+            int column = wrap(place);
+            return column < length && column < colors.length ? colors[column] : DARK;
         }
     }
 }

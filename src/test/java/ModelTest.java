@@ -95,7 +95,8 @@ public final class ModelTest {
         switch (kind) {
             case 13:
                 value = argument(8, 32);
-                Due.due(where + "setColumns(" + value + ")", x.setColumns(value), y.setColumns(value));
+                Due.due(where + "setColumns(" + value + ")",
+                        x.setColumns(value), y.setColumns(value));
                 break;
             case 14:
                 value = argument(0, 9);
